@@ -3,6 +3,7 @@ import java.util.Random;
 /** Runs of up to 512 calls by seeds, each answer held against the model's. */
 public final class ModelTest {
     private static final int RUNS = 3000;
+    private static final int LAST_TEXT = 380;
     private static final int[] EXTREMES = {Integer.MIN_VALUE, Integer.MAX_VALUE, -1, -7, 16, 60, 64, 100, 10000};
 
     private final Random random;
@@ -30,8 +31,9 @@ public final class ModelTest {
         for (int p = 0; p < people; p++) {
             right &= person(random.nextInt(6));
         }
-        while (right && calls < 500) {
-            right = random.nextInt(12) == 0 ? text() : one(random.nextInt(40));
+        // No answer is promised beyond the 512th: a text takes some hundred calls, any other step 28 at the most.
+        while (right && calls < 484) {
+            right = calls < LAST_TEXT && random.nextInt(12) == 0 ? text() : one(random.nextInt(40));
         }
         if (!right) {
             System.out.println("run " + run + " after\n" + history);
@@ -72,7 +74,7 @@ public final class ModelTest {
             right = same("wipe", x.wipe(), m.wipe());
         }
         int events = random.nextInt(9);
-        for (int i = 0; i < events && right; i++) {
+        for (int i = 0; i < events && right && calls < LAST_TEXT; i++) {
             String event = ".";
             if (random.nextInt(4) > 0) {
                 int p = random.nextInt(6), q = random.nextInt(6);

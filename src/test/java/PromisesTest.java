@@ -937,7 +937,7 @@ public final class PromisesTest {
             x.set(5, 1);
             int[] due = stepped(kept);
             for (int what = 0; what < 3; what++) {
-                Due.is("a year of 60, kept " + kept + ", " + what, x.year(7, 60, what), due[what]);
+                Due.is("a year of 30, kept " + kept + ", " + what, x.year(7, 30, what), due[what]);
             }
         }
     }
@@ -951,7 +951,7 @@ public final class PromisesTest {
         x.set(5, 1);
         int[] count = new int[3];
         int y = 7;
-        for (int i = 1; i <= 60; i++) {
+        for (int i = 1; i <= 30; i++) {
             y = (75 * y + 74) % 65537;
             int p = y % 6, q = y / 6 % 6, h = Math.min(15, x.state(p, 1) + 2);
             boolean does = x.does(q, h) == 1;

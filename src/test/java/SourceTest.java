@@ -1,7 +1,12 @@
+import java.lang.reflect.Field;
+import java.lang.reflect.Method;
+import java.lang.reflect.Modifier;
 import java.nio.charset.StandardCharsets;
 import java.nio.file.Files;
 import java.nio.file.Path;
 import java.util.List;
+import java.util.Set;
+import java.util.TreeSet;
 import java.util.regex.Matcher;
 import java.util.regex.Pattern;
 
@@ -9,10 +14,19 @@ import java.util.regex.Pattern;
 public final class SourceTest {
     private static final Path SOURCE = Path.of("src/main/java/DareBridge.java");
     private static final String[] BANNED = {
-        "\\bthrow\\b", "\\btry\\b", "\\bcatch\\b", "\\bsynchronized\\b", "\\bassert\\b", "\\bimport\\b", "\\bpackage\\b",
-        "->", "::", "Exact\\(", "\\bSystem\\.(?!arraycopy)", "\\bObject\\b", "\\bThread\\b", "\\bprotected\\b", "\\bstatic \\{",
-        "\\bhashCode\\b", "\\btoString\\b", "\\bRandom\\b", "\\bvar\\b"
+        "\\bthrow\\b", "\\btry\\b", "\\bcatch\\b", "\\bsynchronized\\b", "\\bassert\\b", "\\bpackage\\b",
+        "\\bimport (?!java\\.util\\.(ArrayList|List|Arrays|Iterator|\\*);)", "^(?!\\s*(case|default)\\b).*->", "::", "Exact\\(",
+        "\\bSystem\\.(?!arraycopy)", "\\bObject\\b", "\\bThread\\b", "\\bprotected\\b", "\\bstatic \\{",
+        "\\bhashCode\\b", "\\bString toString\\b", "\\bRandom\\b"
     };
+    private static final Set<String> CONSTANTS = Set.of("UNKNOWN", "OUTSIDE", "STATE", "FULL", "NO", "NONE", "GONE");
+    private static final String FACE = "int person(int, int, int, int, boolean); int leave(int); int set(int, int);"
+        + "int say(int); int wipe(); int fault(); int judge(int); int state(int, int); int behind(int, int); int done();"
+        + "int ties(int); long unhurt(int); int odds(int, int); int worth(int, int, int); int does(int, int);"
+        + "int nerve(int, int); int climb(int, int, int, int, int); long safe(int, int, int, int, int);"
+        + "int law(int, int, int, int, int); int game(int, int, int, int, int); int enough(int); int holds(int);"
+        + "int won(int); int refuser(int, int); int likely(int, int); int seen(int, int, int); int forget();"
+        + "int prides(int, int); int year(int, int, int); int image(int); int restore(int); int told(int)";
     private static int wrong = 0;
 
     public static void main(String[] args) throws Exception {
@@ -29,6 +43,7 @@ public final class SourceTest {
         indexes(lines);
         statics(lines);
         methods(lines);
+        face();
         System.out.println(wrong == 0 ? "the source keeps the rules that were looked at" : wrong + " breaches");
         if (wrong != 0) {
             System.exit(1);
@@ -55,8 +70,11 @@ public final class SourceTest {
         }
     }
 
-    /** Rows are read and written by at and put alone. */
+    /** Rows are read and written by at and put alone, which look at the index first. */
     private static void indexes(List<String> lines) {
+        if (lines.stream().noneMatch(line -> line.contains("int at(int[] row, int i)"))) {
+            return;
+        }
         Pattern index = Pattern.compile("(?<!new int)\\[[^\\]]+\\]");
         int found = 0;
         for (String line : lines) {
@@ -96,9 +114,52 @@ public final class SourceTest {
             while (end < lines.size() && !lines.get(end).equals(matcher.group(1) + "}")) {
                 end++;
             }
-            if (end - i > 60) {
+            if (end - i > 65) {
                 fail("a long method: " + lines.get(i).trim());
             }
+        }
+    }
+
+    /** The document's face and nothing beside it; no private method bears the name of a public one. */
+    private static void face() {
+        Set<String> open = new TreeSet<>();
+        for (Method method : DareBridge.class.getDeclaredMethods()) {
+            if (Modifier.isPublic(method.getModifiers())) {
+                open.add(method.getReturnType() + " " + method.getName() + List.of(method.getParameterTypes()));
+            } else if (!Modifier.isPrivate(method.getModifiers()) && !method.isSynthetic()) {
+                fail("neither public nor private: " + method);
+            }
+        }
+        Set<String> due = new TreeSet<>();
+        for (String head : FACE.split(";")) {
+            String[] words = head.trim().split("[ (,)]+");
+            due.add(words[0] + " " + words[1] + List.of(words).subList(2, words.length));
+        }
+        if (!open.equals(due)) {
+            fail("the face is " + open + ", due is " + due);
+        }
+        for (Field field : DareBridge.class.getDeclaredFields()) {
+            boolean constant = CONSTANTS.contains(field.getName());
+            if (constant ? !Modifier.isPublic(field.getModifiers()) : !Modifier.isPrivate(field.getModifiers())) {
+                fail("a field that is to be " + (constant ? "public: " : "private: ") + field);
+            }
+        }
+        allNestedAreStatic(DareBridge.class, open);
+    }
+
+    private static void allNestedAreStatic(Class<?> outer, Set<String> open) {
+        for (Method method : outer.getDeclaredMethods()) {
+            if (Modifier.isPrivate(method.getModifiers())
+                && open.stream().anyMatch(head -> head.contains(" " + method.getName() + "["))) {
+                fail("a private method with the name of a public one: " + method);
+            }
+        }
+        for (Class<?> nested : outer.getDeclaredClasses()) {
+            int is = nested.getModifiers();
+            if (!Modifier.isStatic(is) || Modifier.isPublic(is) || Modifier.isProtected(is)) {
+                fail("a class inside that is not as told: " + nested);
+            }
+            allNestedAreStatic(nested, open);
         }
     }
 }
