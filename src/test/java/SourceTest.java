@@ -42,6 +42,8 @@ public final class SourceTest {
         bans(lines);
         indexes(lines);
         statics(lines);
+        makes(lines);
+        library(lines);
         methods(lines);
         face();
         System.out.println(wrong == 0 ? "the source keeps the rules that were looked at" : wrong + " breaches");
@@ -100,6 +102,32 @@ public final class SourceTest {
         }
     }
 
+    /** All that is made is made with the object: what a run makes does not grow by its calls. */
+    private static void makes(List<String> lines) {
+        Pattern kept = Pattern.compile("^\\s+(private )?final \\w+(\\[\\])? \\w+ = new \\w+(\\(\\)|\\[[A-Z* ]+\\]);$");
+        for (String line : lines) {
+            if (line.matches(".*\\bnew\\b.*") && !kept.matcher(line).find()) {
+                fail("what a call makes: " + line.trim());
+            }
+            if (line.contains("\"") || line.contains("clone(")) {
+                fail("a text or a copy: " + line.trim());
+            }
+        }
+    }
+
+    private static void library(List<String> lines) {
+        Pattern call = Pattern.compile("\\b([A-Z][a-z]\\w*)\\.(\\w+)\\(");
+        Set<String> used = Set.of("Math.max", "Math.min", "Integer.bitCount", "Town.worthRefused");
+        for (String line : lines) {
+            Matcher matcher = call.matcher(line);
+            while (matcher.find()) {
+                if (!used.contains(matcher.group(1) + "." + matcher.group(2))) {
+                    fail("a call of the library that was not looked at: " + line.trim());
+                }
+            }
+        }
+    }
+
     private static void methods(List<String> lines) {
         Pattern head = Pattern.compile("^( {4}| {8})\\w[\\w<>\\[\\] ]*\\(([^)]*)\\) \\{$");
         for (int i = 0; i < lines.size(); i++) {
@@ -153,6 +181,10 @@ public final class SourceTest {
                 && open.stream().anyMatch(head -> head.contains(" " + method.getName() + "["))) {
                 fail("a private method with the name of a public one: " + method);
             }
+        }
+        long fields = List.of(outer.getDeclaredFields()).stream().filter(f -> !Modifier.isStatic(f.getModifiers())).count();
+        if (fields > 20 || outer.getDeclaredClasses().length > 11) {
+            fail("too many fields or classes: " + outer);
         }
         for (Class<?> nested : outer.getDeclaredClasses()) {
             int is = nested.getModifiers();
